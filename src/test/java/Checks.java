@@ -1,0 +1,73 @@
+/** Compares what calls answer or throw with what is due, prints every difference, and ends the run. */
+final class Checks {
+    interface Call {
+        long run();
+    }
+
+    interface Act {
+        void run();
+    }
+
+    private String promise = "";
+    private int wrong = 0;
+    private int done = 0;
+
+    void promise(String name) {
+        promise = name;
+    }
+
+    void answers(String call, long due, Call it) {
+        compare(call, String.valueOf(due), outcome(it));
+    }
+
+    void passes(String call, Act it) {
+        compare(call, "0", outcome(asCall(it)));
+    }
+
+    void refusesArgument(String call, Call it) {
+        compare(call, "IllegalArgumentException", outcome(it));
+    }
+
+    void refusesArgumentOf(String call, Act it) {
+        compare(call, "IllegalArgumentException", outcome(asCall(it)));
+    }
+
+    void refusesState(String call, Call it) {
+        compare(call, "IllegalStateException", outcome(it));
+    }
+
+    void refusesIndex(String call, Call it) {
+        compare(call, "IndexOutOfBoundsException", outcome(it));
+    }
+
+    void compare(String call, String due, String got) {
+        done++;
+        if (!due.equals(got)) {
+            wrong++;
+            System.out.println(promise + ": " + call + " gave " + got + ", due is " + due);
+        }
+    }
+
+    /** The answer, or the exact class of what was thrown: a subclass of what is due is wrong. */
+    static String outcome(Call it) {
+        try {
+            return String.valueOf(it.run());
+        } catch (RuntimeException e) {
+            return e.getClass().getSimpleName();
+        }
+    }
+
+    static Call asCall(Act it) {
+        return () -> {
+            it.run();
+            return 0;
+        };
+    }
+
+    void end() {
+        System.out.println(done + " checks, " + wrong + " wrong");
+        if (wrong != 0 || done == 0) {
+            System.exit(1);
+        }
+    }
+}
