@@ -252,7 +252,6 @@ public final class EventKeeper {
             values[place] = v;
             causeProjections[place] = NONE;
             causePlaces[place] = NONE;
-            emitters[place] = 0;
             streamSizes[stream]++;
             size++;
             return place;
@@ -281,7 +280,10 @@ public final class EventKeeper {
             size = durableSize;
         }
 
-        /** What caused it may outlive the crash, and must then be free to emit again. */
+        /**
+         * What caused it may outlive the crash, and must then be free to emit again; if it does not,
+         * its row is left without a bit for the next event there, as effects are lost before causes.
+         */
         private void forgetCause(int place) {
             int projection = causeProjections[place];
             emitters[causePlaces[place]] &= ~(1 << projection);
