@@ -281,8 +281,8 @@ public final class EventKeeper {
         }
 
         /**
-         * What caused it may outlive the crash, and must then be free to emit again; if it does not,
-         * its row is left without a bit for the next event there, as effects are lost before causes.
+         * What caused it may outlive the crash, and must then be free to emit again. If it does not,
+         * no bit is left for the next event at its place: all it caused stood behind it, and is lost too.
          */
         private void forgetCause(int place) {
             int projection = causeProjections[place];
