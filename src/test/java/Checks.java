@@ -8,12 +8,26 @@ final class Checks {
         void run();
     }
 
-    private String promise = "";
+    private String sentence = null;
+    private int doneForSentence = 0;
+    private int sentences = 0;
     private int wrong = 0;
     private int done = 0;
 
-    void promise(String name) {
-        promise = name;
+    /** What the checks from here on are for: the words of the document, and where they stand. */
+    void sentence(String where, String words) {
+        refuseUnchecked();
+        sentence = where + " '" + words + "'";
+        sentences++;
+        doneForSentence = 0;
+    }
+
+    /** A sentence without a check would look like one that holds. */
+    private void refuseUnchecked() {
+        if (sentence != null && doneForSentence == 0) {
+            wrong++;
+            System.out.println(sentence + ": nothing was checked");
+        }
     }
 
     void answers(String call, long due, Call it) {
@@ -42,9 +56,10 @@ final class Checks {
 
     void compare(String call, String due, String got) {
         done++;
+        doneForSentence++;
         if (!due.equals(got)) {
             wrong++;
-            System.out.println(promise + ": " + call + " gave " + got + ", due is " + due);
+            System.out.println(sentence + ": " + call + " gave " + got + ", due is " + due);
         }
     }
 
@@ -65,7 +80,8 @@ final class Checks {
     }
 
     void end() {
-        System.out.println(done + " checks, " + wrong + " wrong");
+        refuseUnchecked();
+        System.out.println(sentences + " sentences, " + done + " checks, " + wrong + " wrong");
         if (wrong != 0 || done == 0) {
             System.exit(1);
         }

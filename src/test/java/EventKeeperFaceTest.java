@@ -29,7 +29,7 @@ public final class EventKeeperFaceTest {
 
     public static void main(String[] args) {
         Checks checks = new Checks();
-        checks.promise("the public face");
+        checks.sentence("The public face", "and no more");
         Class<?> it = EventKeeper.class;
         checks.compare("the class", "public final", Modifier.toString(it.getModifiers()));
         Set<String> names = new TreeSet<>();

@@ -19,7 +19,7 @@ public final class EventKeeperModelTest {
     private EventKeeperModelTest(int seed, Checks itsChecks) {
         random = new Random(seed);
         checks = itsChecks;
-        checks.promise("run " + seed);
+        checks.sentence("seed", String.valueOf(seed));
         int[] usual = {40, 3, 25, 4, 8, 2, 8, 8, 2, 2, 8, 4, 6, 12};
         for (int i = 0; i < METHODS; i++) {
             weights[i] = 1 + random.nextInt(2 * usual[i]);
@@ -51,7 +51,7 @@ public final class EventKeeperModelTest {
         }
         System.out.println("full logs " + full + ", stays " + rare[0] + ", not emitted twice " + rare[1]
                 + ", emitted again " + rare[2] + ", restored " + rare[3] + ", given up " + rare[4]);
-        checks.promise("the runs");
+        checks.sentence("the runs", "meet every rare turn");
         checks.compare("meet every rare turn", "true",
                 "" + (full > 0 && rare[0] > 0 && rare[1] > 0 && rare[2] > 0 && rare[3] > 0 && rare[4] > 0));
         checks.end();
