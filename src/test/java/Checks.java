@@ -14,12 +14,34 @@ final class Checks {
     private int wrong = 0;
     private int done = 0;
 
-    /** What the checks from here on are for: the words of the document, and where they stand. */
+    /** What the checks from here on are for: the words of the document ('..': left out), and where they stand. */
     void sentence(String where, String words) {
+        begin(where + " '" + words + "'");
+    }
+
+    /** The same, with the one case of these words that is looked at. */
+    void sentence(String where, String words, String onlyCase) {
+        begin(where + " '" + words + "' (" + onlyCase + ")");
+    }
+
+    private void begin(String text) {
         refuseUnchecked();
-        sentence = where + " '" + words + "'";
+        sentence = text;
         sentences++;
         doneForSentence = 0;
+    }
+
+    /** One test: what it throws outside a check is a fault of its sentence, and the next test still runs. */
+    void test(Act it) {
+        sentence = null;
+        try {
+            it.run();
+            refuseUnchecked();
+        } catch (RuntimeException e) {
+            wrong++;
+            System.out.println(sentence + ": threw " + e + " where nothing throws");
+        }
+        sentence = null;
     }
 
     /** A sentence without a check would look like one that holds. */

@@ -1,30 +1,30 @@
 /** The document's Terms 4, what a CRASH leaves: a test of its own for each sentence with a boundary. */
 public final class EventKeeperCrashTest extends Given {
     public static void main(String[] args) {
-        durableAlone();
-        durableNone();
-        durableAll();
-        lostOnesLeaveNothing();
-        savedWithNotMoreEvents();
-        savedWithAsManyEvents();
-        savedWithOneMore();
-        savedWithFewer();
-        savedCountsEventsNotItsPosition();
-        savedWithEmittedOnes();
-        savedInAnEmptyLog();
-        onlyTheLatestSave();
-        nothingSaved();
-        givenUpIsNotSaved();
-        savedStaysSaved();
-        countedOnceAfterACrash();
-        emittedOnceAfterACrash();
-        eachProjectionForItself();
-        safePosition();
-        withoutASafeOne();
-        staysSafe();
-        notAboveTheEvents();
-        rulesStay();
-        filtersStay();
+        c.test(EventKeeperCrashTest::durableAlone);
+        c.test(EventKeeperCrashTest::durableNone);
+        c.test(EventKeeperCrashTest::durableAll);
+        c.test(EventKeeperCrashTest::lostOnesLeaveNothing);
+        c.test(EventKeeperCrashTest::savedWithNotMoreEvents);
+        c.test(EventKeeperCrashTest::savedWithAsManyEvents);
+        c.test(EventKeeperCrashTest::savedWithOneMore);
+        c.test(EventKeeperCrashTest::savedWithFewer);
+        c.test(EventKeeperCrashTest::savedCountsEventsNotItsPosition);
+        c.test(EventKeeperCrashTest::savedWithEmittedOnes);
+        c.test(EventKeeperCrashTest::savedInAnEmptyLog);
+        c.test(EventKeeperCrashTest::onlyTheLatestSave);
+        c.test(EventKeeperCrashTest::nothingSaved);
+        c.test(EventKeeperCrashTest::givenUpIsNotSaved);
+        c.test(EventKeeperCrashTest::savedStaysSaved);
+        c.test(EventKeeperCrashTest::countedOnceAfterACrash);
+        c.test(EventKeeperCrashTest::emittedOnceAfterACrash);
+        c.test(EventKeeperCrashTest::eachProjectionForItself);
+        c.test(EventKeeperCrashTest::safePosition);
+        c.test(EventKeeperCrashTest::withoutASafeOne);
+        c.test(EventKeeperCrashTest::staysSafe);
+        c.test(EventKeeperCrashTest::notAboveTheEvents);
+        c.test(EventKeeperCrashTest::rulesStay);
+        c.test(EventKeeperCrashTest::filtersStay);
         c.end();
     }
 
@@ -49,7 +49,7 @@ public final class EventKeeperCrashTest extends Given {
     }
 
     private static void durableNone() {
-        c.sentence("Terms 4", "THE LOG has the DURABLE EVENTS alone: there are none");
+        c.sentence("Terms 4", "THE LOG has the DURABLE EVENTS alone", "there are none");
         EventKeeper x = filled(3);
         c.answers("crash()", 0, x::crash);
         c.answers("count(0, 0)", 0, () -> x.count(0, 0));
@@ -64,7 +64,7 @@ public final class EventKeeperCrashTest extends Given {
     }
 
     private static void durableAll() {
-        c.sentence("Terms 4", "THE LOG has the DURABLE EVENTS alone: all of them are");
+        c.sentence("Terms 4", "THE LOG has the DURABLE EVENTS alone", "all of them are");
         EventKeeper x = filled(500);
         x.sync();
         c.answers("crash()", 500, x::crash);
@@ -75,7 +75,7 @@ public final class EventKeeperCrashTest extends Given {
     }
 
     private static void lostOnesLeaveNothing() {
-        c.sentence("Terms 4", "THE LOG has the DURABLE EVENTS alone: STREAMS, VERSIONS and CAUSES go by them");
+        c.sentence("Terms 4", "THE LOG has the DURABLE EVENTS alone", "STREAMS, VERSIONS and CAUSES go by them");
         EventKeeper x = emitting(2);
         x.sync();
         x.append(3, -1, 1, 0);
@@ -132,7 +132,7 @@ public final class EventKeeperCrashTest extends Given {
     }
 
     private static void savedWithAsManyEvents() {
-        c.sentence("Terms 4", "if THE LOG had not more EVENTS then than it has now: as many");
+        c.sentence("Terms 4", "if THE LOG had not more EVENTS then than it has now", "as many");
         EventKeeper x = counting(4);
         x.save(0);
         x.append(0, -1, 0, 0);
@@ -158,7 +158,7 @@ public final class EventKeeperCrashTest extends Given {
     }
 
     private static void savedWithFewer() {
-        c.sentence("Terms 4", "if THE LOG had not more EVENTS then than it has now: fewer");
+        c.sentence("Terms 4", "if THE LOG had not more EVENTS then than it has now", "fewer");
         EventKeeper x = counting(4);
         x.save(0);
         x.append(0, -1, 0, 0);
@@ -169,7 +169,7 @@ public final class EventKeeperCrashTest extends Given {
     }
 
     private static void savedCountsEventsNotItsPosition() {
-        c.sentence("Terms 4", "if THE LOG had not more EVENTS then: its EVENTS, wherever the POSITION is");
+        c.sentence("Terms 4", "if THE LOG had not more EVENTS then", "its EVENTS, wherever the POSITION is");
         EventKeeper x = counting(4);
         x.append(0, -1, 0, 0);
         x.save(0);
@@ -178,7 +178,7 @@ public final class EventKeeperCrashTest extends Given {
     }
 
     private static void savedWithEmittedOnes() {
-        c.sentence("Terms 4", "if THE LOG had not more EVENTS then: emitted ones too");
+        c.sentence("Terms 4", "if THE LOG had not more EVENTS then", "emitted ones too");
         EventKeeper x = emitting(2);
         x.sync();
         x.advance(0, 2);
@@ -193,7 +193,7 @@ public final class EventKeeperCrashTest extends Given {
     }
 
     private static void savedInAnEmptyLog() {
-        c.sentence("Terms 4", "if THE LOG had not more EVENTS then than it has now: none then, none now");
+        c.sentence("Terms 4", "if THE LOG had not more EVENTS then than it has now", "none then, none now");
         EventKeeper x = new EventKeeper();
         x.rule(0, 0, ADD_ONE, CELL_0);
         c.answers("save(0)", 0, () -> x.save(0));
@@ -206,7 +206,7 @@ public final class EventKeeperCrashTest extends Given {
     }
 
     private static void onlyTheLatestSave() {
-        c.sentence("Terms 4", "A PROJECTION is as it was SAVED: by the latest save() alone");
+        c.sentence("Terms 4", "A PROJECTION is as it was SAVED", "by the latest save() alone");
         EventKeeper x = counting(4);
         x.save(0);
         x.advance(0, 1);
@@ -258,7 +258,7 @@ public final class EventKeeperCrashTest extends Given {
     }
 
     private static void savedStaysSaved() {
-        c.sentence("Terms 4", "A PROJECTION is as it was SAVED: at each CRASH");
+        c.sentence("Terms 4", "A PROJECTION is as it was SAVED", "at each CRASH");
         EventKeeper x = counting(4);
         x.save(0);
         for (int i = 0; i < 3; i++) {
@@ -295,24 +295,29 @@ public final class EventKeeperCrashTest extends Given {
     }
 
     private static void eachProjectionForItself() {
-        c.sentence("Terms 4", "A PROJECTION is as it was SAVED .. else (or if nothing is SAVED): each for itself");
-        EventKeeper x = filled(4);
-        for (int p : below(8)) {
-            x.rule(p, 0, ADD_ONE, CELL_0);
-            x.advance(p, 1 + p % 4);
-        }
-        x.sync();
-        for (int p = 0; p < 8; p += 2) {
-            x.save(p);
-        }
-        x.append(0, -1, 0, 0);
-        x.save(7);
-        x.save(6);
-        x.crash();
-        int[] due = {1, 0, 3, 0, 1, 0, 0, 0};
-        for (int p : below(8)) {
-            c.answers("count(3, " + p + ")", due[p], () -> x.count(3, p));
-            c.answers("cell(" + p + ", 0)", due[p], () -> x.cell(p, 0));
+        c.sentence("Terms 4", "A PROJECTION is as it was SAVED .. else (or if nothing is SAVED)", "each for itself");
+        for (int shift : below(3)) {
+            EventKeeper x = filled(4);
+            x.sync();
+            for (int p : below(8)) {
+                x.rule(p, 0, ADD_ONE, CELL_0);
+                x.advance(p, 1 + p % 3);
+                if ((p + shift) % 3 == 0) {
+                    x.save(p);
+                }
+            }
+            x.append(0, -1, 0, 0);
+            for (int p : below(8)) {
+                if ((p + shift) % 3 == 1) {
+                    x.save(p);
+                }
+            }
+            x.crash();
+            for (int p : below(8)) {
+                int due = (p + shift) % 3 == 0 ? 1 + p % 3 : 0;
+                c.answers("count(3, " + p + "), shift " + shift, due, () -> x.count(3, p));
+                c.answers("cell(" + p + ", 0), shift " + shift, due, () -> x.cell(p, 0));
+            }
         }
     }
 
@@ -382,22 +387,23 @@ public final class EventKeeperCrashTest extends Given {
 
     private static void rulesStay() {
         c.sentence("Terms 4", "RULES .. stay");
-        EventKeeper x = filled(2);
+        EventKeeper x = filled(4);
         x.sync();
-        x.rule(0, 0, ADD_ONE, CELL_0);
-        x.rule(1, 0, ADD_ONE, BY_VALUE);
+        for (int p : below(3)) {
+            x.rule(p, 0, ADD_ONE, BY_VALUE);
+            x.advance(p, 1);
+        }
         x.save(1);
-        x.rule(2, 0, ADD_ONE, CELL_0);
         x.append(0, -1, 0, 0);
         x.save(2);
-        x.crash();
-        for (int p : below(3)) {
-            x.advance(p, 2);
+        for (int times : below(2)) {
+            x.crash();
+            for (int p : below(3)) {
+                c.answers("advance(" + p + ", 9), crash " + times, p == 1 ? 3 : 4, () -> x.advance(p, 9));
+                c.answers("cell(" + p + ", 0), crash " + times, 1, () -> x.cell(p, 0));
+                c.answers("cell(" + p + ", 3), crash " + times, 1, () -> x.cell(p, 3));
+            }
         }
-        c.answers("cell(0, 0), nothing saved", 2, () -> x.cell(0, 0));
-        c.answers("cell(1, 0), saved", 1, () -> x.cell(1, 0));
-        c.answers("cell(1, 1), saved", 1, () -> x.cell(1, 1));
-        c.answers("cell(2, 0), given up", 2, () -> x.cell(2, 0));
     }
 
     private static void filtersStay() {

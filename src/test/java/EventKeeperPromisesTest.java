@@ -1,61 +1,61 @@
 /** Promises 1 to 15: a test of its own for each sentence, with the edges it names and wrong inputs. */
 public final class EventKeeperPromisesTest extends Given {
     public static void main(String[] args) {
-        calls512();
-        newHasNoEvents();
-        newRulesDoNothing();
-        newFiltersLetAllThrough();
-        appendAnswersThePlace();
-        appendAsExpected();
-        appendToAny();
-        appendRefusesArguments();
-        appendRefusesTheStream();
-        appendToAFullLog();
-        ruleOfAProjection();
-        ruleOfOtherKindsStay();
-        ruleStartsOver();
-        ruleLeavesNothingSaved();
-        ruleRefuses();
-        advanceUpToN();
-        advanceNone();
-        advanceTheMost();
-        advanceNoMore();
-        advanceStays();
-        advanceTakesWhatItEmits();
-        advanceRefuses();
-        saveAnswersThePosition();
-        saveRefuses();
-        cellOfAProjection();
-        cellRefuses();
-        filterOfAStream();
-        filterOfKinds();
-        filterStartsOver();
-        filterLeavesNoneSafe();
-        filterRefuses();
-        nextAnswersThePlace();
-        nextNone();
-        nextRefuses();
-        acknowledgeUpToAPlace();
-        acknowledgeWhateverTheFilter();
-        acknowledgeALesserOne();
-        acknowledgeRefuses();
-        acknowledgeNoEvent();
-        syncMakesDurable();
-        syncMakesSafe();
-        syncAnswersTheEvents();
-        crashAnswersTheEvents();
-        eventTellsEach();
-        eventRefuses();
-        eventNone();
-        valueOfAnEvent();
-        valueNone();
-        findAVersion();
-        findRefuses();
-        findNone();
-        countEach();
-        countLooksNotAtK();
-        countRefusesWhat();
-        countRefusesK();
+        c.test(EventKeeperPromisesTest::calls512);
+        c.test(EventKeeperPromisesTest::newHasNoEvents);
+        c.test(EventKeeperPromisesTest::newRulesDoNothing);
+        c.test(EventKeeperPromisesTest::newFiltersLetAllThrough);
+        c.test(EventKeeperPromisesTest::appendAnswersThePlace);
+        c.test(EventKeeperPromisesTest::appendAsExpected);
+        c.test(EventKeeperPromisesTest::appendToAny);
+        c.test(EventKeeperPromisesTest::appendRefusesArguments);
+        c.test(EventKeeperPromisesTest::appendRefusesTheStream);
+        c.test(EventKeeperPromisesTest::appendToAFullLog);
+        c.test(EventKeeperPromisesTest::ruleOfAProjection);
+        c.test(EventKeeperPromisesTest::ruleOfOtherKindsStay);
+        c.test(EventKeeperPromisesTest::ruleStartsOver);
+        c.test(EventKeeperPromisesTest::ruleLeavesNothingSaved);
+        c.test(EventKeeperPromisesTest::ruleRefuses);
+        c.test(EventKeeperPromisesTest::advanceUpToN);
+        c.test(EventKeeperPromisesTest::advanceNone);
+        c.test(EventKeeperPromisesTest::advanceTheMost);
+        c.test(EventKeeperPromisesTest::advanceNoMore);
+        c.test(EventKeeperPromisesTest::advanceStays);
+        c.test(EventKeeperPromisesTest::advanceTakesWhatItEmits);
+        c.test(EventKeeperPromisesTest::advanceRefuses);
+        c.test(EventKeeperPromisesTest::saveAnswersThePosition);
+        c.test(EventKeeperPromisesTest::saveRefuses);
+        c.test(EventKeeperPromisesTest::cellOfAProjection);
+        c.test(EventKeeperPromisesTest::cellRefuses);
+        c.test(EventKeeperPromisesTest::filterOfAStream);
+        c.test(EventKeeperPromisesTest::filterOfKinds);
+        c.test(EventKeeperPromisesTest::filterStartsOver);
+        c.test(EventKeeperPromisesTest::filterLeavesNoneSafe);
+        c.test(EventKeeperPromisesTest::filterRefuses);
+        c.test(EventKeeperPromisesTest::nextAnswersThePlace);
+        c.test(EventKeeperPromisesTest::nextNone);
+        c.test(EventKeeperPromisesTest::nextRefuses);
+        c.test(EventKeeperPromisesTest::acknowledgeUpToAPlace);
+        c.test(EventKeeperPromisesTest::acknowledgeWhateverTheFilter);
+        c.test(EventKeeperPromisesTest::acknowledgeALesserOne);
+        c.test(EventKeeperPromisesTest::acknowledgeRefuses);
+        c.test(EventKeeperPromisesTest::acknowledgeNoEvent);
+        c.test(EventKeeperPromisesTest::syncMakesDurable);
+        c.test(EventKeeperPromisesTest::syncMakesSafe);
+        c.test(EventKeeperPromisesTest::syncAnswersTheEvents);
+        c.test(EventKeeperPromisesTest::crashAnswersTheEvents);
+        c.test(EventKeeperPromisesTest::eventTellsEach);
+        c.test(EventKeeperPromisesTest::eventRefuses);
+        c.test(EventKeeperPromisesTest::eventNone);
+        c.test(EventKeeperPromisesTest::valueOfAnEvent);
+        c.test(EventKeeperPromisesTest::valueNone);
+        c.test(EventKeeperPromisesTest::findAVersion);
+        c.test(EventKeeperPromisesTest::findRefuses);
+        c.test(EventKeeperPromisesTest::findNone);
+        c.test(EventKeeperPromisesTest::countEach);
+        c.test(EventKeeperPromisesTest::countLooksNotAtK);
+        c.test(EventKeeperPromisesTest::countRefusesWhat);
+        c.test(EventKeeperPromisesTest::countRefusesK);
         c.end();
     }
 
@@ -300,14 +300,14 @@ public final class EventKeeperPromisesTest extends Given {
     }
 
     private static void advanceNone() {
-        c.sentence("Promise 4", "n is not 0..1000: 0 is");
+        c.sentence("Promise 4", "n is not 0..1000", "0 is");
         EventKeeper x = filled(2);
         c.answers("advance(0, 0)", 0, () -> x.advance(0, 0));
         c.answers("count(3, 0)", 0, () -> x.count(3, 0));
     }
 
     private static void advanceTheMost() {
-        c.sentence("Promise 4", "n is not 0..1000: 1000 is");
+        c.sentence("Promise 4", "n is not 0..1000", "1000 is");
         EventKeeper x = filled(500);
         c.answers("advance(0, 1000)", 500, () -> x.advance(0, 1000));
         c.answers("advance(1, 500)", 500, () -> x.advance(1, 500));
@@ -338,7 +338,7 @@ public final class EventKeeperPromisesTest extends Given {
     }
 
     private static void advanceTakesWhatItEmits() {
-        c.sentence("Promise 4", "A PROJECTION takes up to n EVENTS: those that it emits too");
+        c.sentence("Promise 4", "A PROJECTION takes up to n EVENTS", "those that it emits too");
         EventKeeper x = emitting(2);
         x.rule(0, 7, ADD_ONE, BY_VALUE);
         c.answers("advance(0, 2), not more than n", 2, () -> x.advance(0, 2));
@@ -658,7 +658,8 @@ public final class EventKeeperPromisesTest extends Given {
     }
 
     private static void eventTellsEach() {
-        c.sentence("Promise 12", "what 0: STREAM, 1: VERSION, 2: KIND, 3: the PROJECTION, 4: the place of its CAUSE (-1 none)");
+        c.sentence("Promise 12",
+                "what 0: STREAM, 1: VERSION, 2: KIND, 3: the PROJECTION, 4: the place of its CAUSE (-1 none)");
         EventKeeper x = caused();
         int[][] due = {{9, 0, 3, -1, -1}, {9, 1, 4, -1, -1}, {8, 0, 3, -1, -1}, {6, 0, 7, 5, 2}};
         for (int place : below(4)) {
@@ -757,7 +758,7 @@ public final class EventKeeperPromisesTest extends Given {
     }
 
     private static void countEach() {
-        c.sentence("Promise 15", "What 0: EVENTS; 1: DURABLE ones; 2: EVENTS of STREAM k; 3: POSITION of PROJECTION k; ..");
+        c.sentence("Promise 15", "What 0: EVENTS; 1: DURABLE ones; .. 5: EVENTS with a CAUSE of PROJECTION k");
         EventKeeper x = counted();
         c.answers("count(0, 0)", 5, () -> x.count(0, 0));
         c.answers("count(1, 0)", 4, () -> x.count(1, 0));

@@ -28,21 +28,21 @@ public final class EventKeeperRefusalsTest extends Given {
             }));
 
     public static void main(String[] args) {
-        appendArgumentBeforeState();
-        appendArgumentBeforeIndex();
-        appendStateBeforeIndex();
-        cellArgumentBeforeIndex();
-        acknowledgeArgumentBeforeIndex();
-        eventArgumentBeforeIndex();
-        findArgumentBeforeIndex();
-        refusedCallsChangeNothing();
-        refusedCallsChangeNoFilter();
-        refusedCallsOfAFullLogChangeNothing();
+        c.test(EventKeeperRefusalsTest::appendArgumentBeforeState);
+        c.test(EventKeeperRefusalsTest::appendArgumentBeforeIndex);
+        c.test(EventKeeperRefusalsTest::appendStateBeforeIndex);
+        c.test(EventKeeperRefusalsTest::cellArgumentBeforeIndex);
+        c.test(EventKeeperRefusalsTest::acknowledgeArgumentBeforeIndex);
+        c.test(EventKeeperRefusalsTest::eventArgumentBeforeIndex);
+        c.test(EventKeeperRefusalsTest::findArgumentBeforeIndex);
+        c.test(EventKeeperRefusalsTest::refusedCallsChangeNothing);
+        c.test(EventKeeperRefusalsTest::refusedCallsChangeNoFilter);
+        c.test(EventKeeperRefusalsTest::refusedCallsOfAFullLogChangeNothing);
         c.end();
     }
 
     private static void first(String call) {
-        c.sentence("Terms 4", "Of several exceptions of a call the one named first in its heading is thrown: " + call);
+        c.sentence("Terms 4", "Of several exceptions of a call the one named first in its heading is thrown", call);
     }
 
     private static void appendArgumentBeforeState() {
@@ -289,7 +289,7 @@ public final class EventKeeperRefusalsTest extends Given {
     }
 
     private static void refusedCallsChangeNoFilter() {
-        c.sentence("Terms 4", "a call that throws changes nothing: no FILTER");
+        c.sentence("Terms 4", "a call that throws changes nothing", "no FILTER");
         for (Refusal refusal : refusals()) {
             EventKeeper x = busy();
             Checks.outcome(Checks.asCall(() -> refusal.it().accept(x)));
@@ -298,7 +298,7 @@ public final class EventKeeperRefusalsTest extends Given {
     }
 
     private static void refusedCallsOfAFullLogChangeNothing() {
-        c.sentence("Terms 4", "a call that throws changes nothing: THE LOG is full");
+        c.sentence("Terms 4", "a call that throws changes nothing", "THE LOG is full");
         c.answers("the log that all begin with", 500, () -> busyAndFull().count(0, 0));
         List<Refusal> all = List.of(
                 new Refusal("append(0, -1, 0, 0)", INDEX, x -> x.append(0, -1, 0, 0)),

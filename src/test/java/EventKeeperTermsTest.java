@@ -4,49 +4,51 @@
  */
 public final class EventKeeperTermsTest extends Given {
     public static void main(String[] args) {
-        fiveHundredEvents();
-        fiveHundredEventsByEmitting();
-        sixteenStreams();
-        versionsInTheirOrder();
-        eightKinds();
-        valuesOf64Bits();
-        causeNone();
-        causeOfEachProjection();
-        causeAtTheLastPlaces();
-        durableAtTheLatestSync();
-        eightProjections();
-        oneRuleForEachKind();
-        sixteenCells();
-        cellsWrap();
-        cellsAreZeroAtFirst();
-        positionIsTheNextPlace();
-        whatARuleDoes();
-        cellOfTheStream();
-        cellOfTheValue();
-        cellZero();
-        emitIfEven();
-        emittedStream();
-        emittedKind();
-        emittedValue();
-        emittedVersion();
-        emittedIsAnEventAsOthersAre();
-        notTwiceForACause();
-        notTwiceWhateverTheRule();
-        countedAllTheSame();
-        causeOfAnotherProjection();
-        causeOfAnotherPlace();
-        causeIsFreeWhenLost();
-        staysAtAFullLog();
-        staysUntilThereIsRoom();
-        staysOnlyIfItIsToBeAppended();
-        staysOnlyIfEven();
-        staysAlone();
-        savedAsItWas();
-        eightSubscriptions();
-        streamOrAll();
-        someKinds();
-        firstFromThePositionOn();
-        acknowledgedBySync();
+        c.test(EventKeeperTermsTest::fiveHundredEvents);
+        c.test(EventKeeperTermsTest::fiveHundredEventsByEmitting);
+        c.test(EventKeeperTermsTest::sixteenStreams);
+        c.test(EventKeeperTermsTest::versionsInTheirOrder);
+        c.test(EventKeeperTermsTest::eightKinds);
+        c.test(EventKeeperTermsTest::valuesOf64Bits);
+        c.test(EventKeeperTermsTest::causeNone);
+        c.test(EventKeeperTermsTest::causeOfEachProjection);
+        c.test(EventKeeperTermsTest::causeAtTheLastPlaces);
+        c.test(EventKeeperTermsTest::durableAtTheLatestSync);
+        c.test(EventKeeperTermsTest::eightProjections);
+        c.test(EventKeeperTermsTest::oneRuleForEachKind);
+        c.test(EventKeeperTermsTest::sixteenCells);
+        c.test(EventKeeperTermsTest::cellsWrap);
+        c.test(EventKeeperTermsTest::cellsAreZeroAtFirst);
+        c.test(EventKeeperTermsTest::positionIsTheNextPlace);
+        c.test(EventKeeperTermsTest::whatARuleDoes);
+        c.test(EventKeeperTermsTest::cellOfTheStream);
+        c.test(EventKeeperTermsTest::cellOfTheValue);
+        c.test(EventKeeperTermsTest::cellZero);
+        c.test(EventKeeperTermsTest::emitIfEven);
+        c.test(EventKeeperTermsTest::emittedStream);
+        c.test(EventKeeperTermsTest::emittedKind);
+        c.test(EventKeeperTermsTest::emittedValue);
+        c.test(EventKeeperTermsTest::emittedVersion);
+        c.test(EventKeeperTermsTest::emittedIsAnEventAsOthersAre);
+        c.test(EventKeeperTermsTest::notTwiceForACause);
+        c.test(EventKeeperTermsTest::notTwiceWhateverTheRule);
+        c.test(EventKeeperTermsTest::countedAllTheSame);
+        c.test(EventKeeperTermsTest::causeOfAnotherProjection);
+        c.test(EventKeeperTermsTest::notTwiceForEachProjection);
+        c.test(EventKeeperTermsTest::causeOfAnotherPlace);
+        c.test(EventKeeperTermsTest::causeIsFreeWhenLost);
+        c.test(EventKeeperTermsTest::causeOfAnotherIsLost);
+        c.test(EventKeeperTermsTest::staysAtAFullLog);
+        c.test(EventKeeperTermsTest::staysUntilThereIsRoom);
+        c.test(EventKeeperTermsTest::staysOnlyIfItIsToBeAppended);
+        c.test(EventKeeperTermsTest::staysOnlyIfEven);
+        c.test(EventKeeperTermsTest::staysAlone);
+        c.test(EventKeeperTermsTest::savedAsItWas);
+        c.test(EventKeeperTermsTest::eightSubscriptions);
+        c.test(EventKeeperTermsTest::streamOrAll);
+        c.test(EventKeeperTermsTest::someKinds);
+        c.test(EventKeeperTermsTest::firstFromThePositionOn);
+        c.test(EventKeeperTermsTest::acknowledgedBySync);
         c.end();
     }
 
@@ -69,7 +71,7 @@ public final class EventKeeperTermsTest extends Given {
     }
 
     private static void fiveHundredEventsByEmitting() {
-        c.sentence("Terms 1", "EVENTS have places 0, 1 .. in THE LOG (up to 500): emitted ones too");
+        c.sentence("Terms 1", "EVENTS have places 0, 1 .. in THE LOG (up to 500)", "emitted ones too");
         EventKeeper x = emitting(499);
         c.answers("advance(0, 2)", 2, () -> x.advance(0, 2));
         c.answers("count(0, 0)", 500, () -> x.count(0, 0));
@@ -158,7 +160,7 @@ public final class EventKeeperTermsTest extends Given {
     }
 
     private static void causeAtTheLastPlaces() {
-        c.sentence("Terms 1", "a CAUSE: none, or a PROJECTION and a place: the last one that can be");
+        c.sentence("Terms 1", "a CAUSE: none, or a PROJECTION and a place", "the last one that can be");
         EventKeeper x = filled(497);
         x.append(0, -1, 1, 6);
         x.append(0, -1, 1, 6);
@@ -455,7 +457,7 @@ public final class EventKeeperTermsTest extends Given {
     }
 
     private static void notTwiceWhateverTheRule() {
-        c.sentence("Terms 2", "an EVENT with this CAUSE: whatever made the CELL even");
+        c.sentence("Terms 2", "an EVENT with this CAUSE", "whatever made the CELL even");
         EventKeeper x = new EventKeeper();
         x.rule(0, 0, EMIT, CELL_0);
         x.append(3, -1, 1, 5);
@@ -498,6 +500,21 @@ public final class EventKeeperTermsTest extends Given {
         }
     }
 
+    private static void notTwiceForEachProjection() {
+        c.sentence("Terms 2", "but not if an EVENT with this CAUSE is in THE LOG", "nor if others have the same place");
+        EventKeeper x = filled(2);
+        for (int times : below(2)) {
+            for (int p : below(8)) {
+                x.rule(p, 0, EMIT, CELL_0);
+                x.advance(p, 2);
+            }
+            for (int p : below(8)) {
+                c.answers("count(5, " + p + "), time " + times, 1, () -> x.count(5, p));
+            }
+        }
+        c.answers("count(0, 0)", 10, () -> x.count(0, 0));
+    }
+
     private static void causeOfAnotherPlace() {
         c.sentence("Terms 2", "its CAUSE .. the place of the EVENT");
         EventKeeper x = emitting(8);
@@ -508,7 +525,7 @@ public final class EventKeeperTermsTest extends Given {
     }
 
     private static void causeIsFreeWhenLost() {
-        c.sentence("Terms 2", "if an EVENT with this CAUSE is in THE LOG: not if it was, and is lost");
+        c.sentence("Terms 2", "if an EVENT with this CAUSE is in THE LOG", "not if it was, and is lost");
         EventKeeper x = emitting(4);
         x.advance(0, 2);
         x.sync();
@@ -529,6 +546,25 @@ public final class EventKeeperTermsTest extends Given {
         c.answers("event(2, 0)", 9, () -> y.event(2, 0));
     }
 
+    private static void causeOfAnotherIsLost() {
+        c.sentence("Terms 2", "if an EVENT with this CAUSE is in THE LOG", "though another's is lost");
+        for (int kept : below(2)) {
+            int lost = 1 - kept;
+            EventKeeper x = filled(2);
+            x.rule(kept, 0, EMIT, CELL_0);
+            x.rule(lost, 0, EMIT, CELL_0);
+            x.advance(kept, 2);
+            x.sync();
+            x.advance(lost, 2);
+            c.answers("crash()", 3, x::crash);
+            x.advance(kept, 2);
+            c.answers("count(0, 0), that of " + kept + " is kept", 3, () -> x.count(0, 0));
+            x.advance(lost, 2);
+            c.answers("count(0, 0), that of " + lost + " was lost", 4, () -> x.count(0, 0));
+            c.answers("event(3, 3)", lost, () -> x.event(3, 3));
+        }
+    }
+
     private static void staysAtAFullLog() {
         c.sentence("Terms 2", "the PROJECTION stays before this EVENT, its CELLS too");
         EventKeeper x = emitting(500);
@@ -544,7 +580,7 @@ public final class EventKeeperTermsTest extends Given {
     }
 
     private static void staysUntilThereIsRoom() {
-        c.sentence("Terms 2", "If THE LOG is full: no longer than that");
+        c.sentence("Terms 2", "If THE LOG is full", "no longer than that");
         EventKeeper x = emitting(2);
         x.save(0);
         x.sync();
@@ -572,7 +608,7 @@ public final class EventKeeperTermsTest extends Given {
     }
 
     private static void staysOnlyIfEven() {
-        c.sentence("Terms 2", "If THE LOG is full and it is to be appended: not if the CELL is odd");
+        c.sentence("Terms 2", "If THE LOG is full and it is to be appended", "not if the CELL is odd");
         EventKeeper x = new EventKeeper();
         x.rule(0, 0, EMIT, BY_STREAM);
         for (int i = 0; i < 500; i++) {
@@ -584,11 +620,11 @@ public final class EventKeeperTermsTest extends Given {
     }
 
     private static void staysAlone() {
-        c.sentence("Terms 2", "the PROJECTION stays: others and other RULES go on");
+        c.sentence("Terms 2", "the PROJECTION stays", "others and other RULES go on");
         EventKeeper x = emitting(499);
         x.append(3, -1, 1, 0);
-        x.rule(1, 0, ADD_ONE, CELL_0);
         x.rule(0, 1, EMIT, BY_STREAM);
+        x.rule(1, 0, ADD_ONE, CELL_0);
         c.answers("advance(0, 1000)", 1, () -> x.advance(0, 1000));
         c.answers("advance(1, 1000)", 500, () -> x.advance(1, 1000));
         c.answers("cell(1, 0)", 499, () -> x.cell(1, 0));
